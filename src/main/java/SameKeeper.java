@@ -903,11 +903,6 @@ public final class SameKeeper {
         void shuts() {
             open--;
         }
-
-        void shutsWith(int wanted) {
-            open--;
-            needs(wanted);
-        }
     }
 
     /** What was read, as steps that work on a stack; parts of it are run on their own. */
@@ -1086,7 +1081,8 @@ public final class SameKeeper {
             } else if (token == '(') {
                 if (reader.opens('(')) {
                     readSum(code);
-                    reader.shutsWith(')');
+                    reader.shuts();
+                    reader.needs(')');
                 }
             } else if (token == Reader.MIN || token == Reader.MAX) {
                 reader.step();
@@ -1113,7 +1109,8 @@ public final class SameKeeper {
                 readSum(code);
                 reader.needs(',');
                 readSum(code);
-                reader.shutsWith(')');
+                reader.shuts();
+                reader.needs(')');
                 code.add(step);
             }
         }
@@ -1230,7 +1227,20 @@ public final class SameKeeper {
             reader.begin();
             readOpening(lock);
             while (lock.statements < MOST_STATEMENTS && reader.fault == 0 && reader.token != Reader.END) {
-                readStatement(lock);
+                switch (reader.token) {
+                    case Reader.SAYS:
+                        readSumOf(lock, Lock.SAYS, ofMood);
+                        break;
+                    case Reader.DOES:
+                        readSumOf(lock, Lock.DOES, ofDeed);
+                        break;
+                    case Reader.WAGE:
+                        readSumOf(lock, Lock.WAGE, ofMood);
+                        break;
+                    default:
+                        readNumbers(lock);
+                }
+                reader.needs(';');
                 lock.statements++;
             }
             if (reader.fault == 0 && reader.token != Reader.END) {
@@ -1248,18 +1258,8 @@ public final class SameKeeper {
             lock.statements = 1;
         }
 
-        private void readStatement(Lock lock) {
-            int word = reader.token;
-            switch (word) {
-                case Reader.SAYS:
-                    readSumOf(lock, Lock.SAYS, ofMood);
-                    break;
-                case Reader.DOES:
-                    readSumOf(lock, Lock.DOES, ofDeed);
-                    break;
-                case Reader.WAGE:
-                    readSumOf(lock, Lock.WAGE, ofMood);
-                    break;
+        private void readNumbers(Lock lock) {
+            switch (reader.token) {
                 case Reader.BARGE:
                     readAmount(lock, lock.barge);
                     break;
@@ -1276,7 +1276,6 @@ public final class SameKeeper {
                 default:
                     reader.failHere();
             }
-            reader.needs(';');
         }
 
         private void readSumOf(Lock lock, int which, Sums sums) {
@@ -1374,25 +1373,35 @@ public final class SameKeeper {
             } else if (reader.token == '[') {
                 if (reader.opens('[')) {
                     readTest();
-                    reader.shutsWith(']');
+                    reader.shuts();
+                    reader.needs(']');
                 }
             } else if (reader.takes(Reader.ALL)) {
                 code.add(1);
             } else {
-                readComparison();
+                sums.read(code);
+                int step = stepOf(reader.token);
+                if (step == NONE) {
+                    reader.failHere();
+                } else {
+                    reader.step();
+                    sums.read(code);
+                    code.add(step);
+                }
             }
         }
 
-        private void readComparison() {
-            sums.read(code);
-            int sign = reader.token;
-            if (sign != '<' && sign != '>' && sign != '=') {
-                reader.failHere();
-                return;
+        private static int stepOf(int sign) {
+            switch (sign) {
+                case '<':
+                    return Code.BELOW;
+                case '>':
+                    return Code.ABOVE;
+                case '=':
+                    return Code.EQUAL;
+                default:
+                    return NONE;
             }
-            reader.step();
-            sums.read(code);
-            code.add(sign == '<' ? Code.BELOW : sign == '>' ? Code.ABOVE : Code.EQUAL);
         }
 
         long answer(State state, Graph graph, int[] first) {

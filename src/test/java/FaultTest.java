@@ -49,6 +49,8 @@ public final class FaultTest {
         lock("loc", 1, 0);
         lock("lockk 3 from 1;", 1, 0);
         lock("lockfromlockfrom 3 from 1;", 1, 0);
+        lock("lockz 3 from 1;", 1, 0);
+        lock("zlock 3 from 1;", 1, 0);
         lock("Lock 3 from 1;", 1, 0);
         lock("lock", 1, 4);
         lock("lock  ", 1, 6);
@@ -166,6 +168,9 @@ public final class FaultTest {
         behind("does min(1,max(1,min(1,max(1,min(1,max(1,(2)))))));", 4, 41);
         behind("does min(((((((1", 4, 14);
         behind("does ((((((min (1,1)", 4, 15);
+        SameKeeper x = new SameKeeper();
+        Calls.lock(x, HEAD + "says ((((");
+        DUE.is("what a fault left open is shut", Calls.lock(x, HEAD + "says ((((((1))))));"), 2);
     }
 
     private static void questions() {

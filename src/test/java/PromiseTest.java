@@ -136,10 +136,24 @@ public final class PromiseTest {
         for (int d = 0; d < 4; d++) {
             is("4: by the seed that stayed", x.day(d, 0), y.day(d, 0));
         }
+        longTexts();
         SameKeeper z = Calls.locked("lock 2 from 0;does week;");
         is("4: does", z.does(0, 0, 5), 0);
         Calls.lock(z, "lock 2 from 0;does 3;");
         is("4: another does", z.does(0, 0, 5), 3);
+    }
+
+    private static void longTexts() {
+        SameKeeper x = new SameKeeper();
+        String head = "lock 2 from 0;does 1";
+        String sum = "+1".repeat((1599 - head.length()) / 2);
+        for (int n = 0; n < 5; n++) {
+            is("4: a text that fills the tape", Calls.lock(x, head + sum + ";"), 2);
+            is("4: its sum", x.does(0, 0, 0), (1 + sum.length() / 2) % 10);
+            is("4: what it tells not", x.told(0, 7), 7);
+        }
+        String test = "often all" + " and all".repeat(198);
+        is("36: a question that fills the tape", Calls.ask(x, test), 2);
     }
 
     private static void has() {
@@ -252,6 +266,23 @@ public final class PromiseTest {
         SameKeeper y = Calls.locked("lock 9 from 3;");
         y.go();
         is("10: many agreed", y.kept(0, 1), 1000000000L);
+        SameKeeper z = Calls.locked("lock 2 from 3;does (week+1)/100;");
+        for (int n = 0; n < 33; n++) {
+            is("10: thirty at once", z.chance(30), 30);
+        }
+        for (int n = 0; n < 9; n++) {
+            z.go();
+        }
+        is("10: to week 999", z.has(1), 999);
+        is("10: the last week", z.kept(29, 0), 998);
+        is("10: its mood", z.kept(29, 2), 9);
+        is("10: the oldest that is told", z.kept(0, 0), 969);
+        for (int n = 0; n < 20; n++) {
+            z.undo();
+        }
+        is("10: twenty acts ago", z.has(1), 660);
+        is("10: kept twenty acts ago", z.kept(0, 0) * 1000 + z.kept(29, 0), 630659);
+        is("10: the mood then", z.kept(29, 2), 6);
     }
 
     private static void weeks() {
@@ -303,6 +334,8 @@ public final class PromiseTest {
         is("14: mute ones stay", Calls.locked("lock 3 from 0;mute 1;does told+1;").hushed(), 5);
         is("14: the last alone", Calls.locked("lock 3 from 0;does told+max(day-1,0);").hushed(), 4);
         is("14: without a lock", new SameKeeper().hushed(), -1);
+        is("14: one of the later days rather than two", Calls.locked(
+            "lock 3 from 0;does (1-day/2)*(mood+alone)+day/2*(told+2-mood);").hushed(), 4);
         // on day 2 a week agrees behind mood 1 alone, and each of the days ahead turns to it, mute
         is("14: least of like ones", Calls.locked(
             "lock 3 from 0;does max(0,1-day/2)*(max(mood,alone)) + day/2*(told+1-mood);says mood;").hushed(), 1);
@@ -363,6 +396,8 @@ public final class PromiseTest {
         is("18: ten", x.ring(), 10);
         is("18: one", Calls.locked("lock 2 from 3;does mood;").ring(), 1);
         is("18: never", Calls.locked(FREE.replace("from 0", "from 4")).ring(), -1);
+        is("18: behind thirty", Calls.locked("lock 2 from 0;does min(1,max(0,29-week));").ring(), 30);
+        is("18: behind more", Calls.locked("lock 2 from 0;does min(1,max(0,30-week));").ring(), -1);
         is("18: can't", Calls.locked("lock 2 from 3;does told+1;").ring(), -1);
         Calls.on(x, image(3, 221, 3, 0, 0, 0, 0, 0, 0));
         is("18: by 999", x.ring(), 10);
@@ -533,6 +568,7 @@ public final class PromiseTest {
         is("29: round", x.same(1, 7), 823);
         is("29: never by halves", x.same(1439, 2), -1);
         is("29: most", x.same(1, 1439), 1439);
+        is("29: the most past", x.same(1439, 1), 1439);
         is("29: past", x.same(1440, 1), -1);
         is("29: past below", x.same(-1, 1), -1);
         is("29: each", x.same(0, 1440), -1);
@@ -662,8 +698,9 @@ public final class PromiseTest {
             x.set(0, 0, n % 9 + 1);
         }
         is("34: twenty at most", x.has(6), 20);
-        for (int n = 0; n < 20; n++) {
+        for (int n = 23; n >= 4; n--) {
             is("34: one of twenty", x.undo(), true);
+            is("34: as it was then", x.day(0, 0), n % 9 + 1);
         }
         is("34: no more", x.undo(), false);
         is("34: five stay", x.day(0, 0), 5);
@@ -781,6 +818,7 @@ public final class PromiseTest {
         x.go();
         x.set(0, 0, 1);
         Calls.hear(x, 1, 4);
+        x.mute(1, 1);
         is("39: on", Calls.on(x, image(3, 231, 9, 9, 8, 1, 0, 9, 0)), true);
         is("39: week", x.has(1), 999);
         is("39: mood", x.has(2), 9);
