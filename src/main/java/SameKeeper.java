@@ -829,11 +829,12 @@ public final class SameKeeper {
                 return;
             }
             for (int k = 0; k + WORD_ROOM <= WORDS.length(); k += WORD_ROOM) {
-                int same = 0;
-                while (same < WORD_ROOM && WORDS.charAt(k + same) == (start + same < at ? tape.bytes[start + same] : ' ')) {
-                    same++;
+                boolean alike = true;
+                for (int i = 0; i < WORD_ROOM && alike; i++) {
+                    int letter = start + i < at ? tape.bytes[start + i] : ' ';
+                    alike = WORDS.charAt(k + i) == letter;
                 }
-                if (same == WORD_ROOM) {
+                if (alike) {
                     token = LOCK + k / WORD_ROOM;
                     return;
                 }
