@@ -28,6 +28,7 @@ public final class ActEdgeTest {
         wrongImages();
         status();
         refusalsLeaveAll();
+        manyCalls();
         S.end(2, 3, 4, 26, 30, 31, 32, 33, 34, 35, 37, 38, 39, 40);
     }
 
@@ -703,6 +704,21 @@ public final class ActEdgeTest {
                 S.is("what can be undone stays", Snapshot.of(x), Snapshot.of(twin));
             }
         }
+    }
+
+    private static void manyCalls() {
+        S.of(TERMS, "An object is used for at most 512 calls after it has been made");
+        SameKeeper acts = new SameKeeper();
+        SameKeeper refusals = new SameKeeper();
+        acts.feed(0x6c6f636b, 0x20392066, 0x726f6d20, 0x303b2020, BLANKS);
+        acts.end(14);
+        acts.lock();
+        for (int call = 4; call <= 511; call++) {
+            S.is("act " + call, acts.set(8, call % 2, call % 4 < 2 ? 9 : 0), true);
+            S.is("refusal " + call, refusals.undo(), false);
+        }
+        S.is("the last call", acts.has(6), 20);
+        S.is("the last call, too", refusals.status(4), 508);
     }
 
     private static void fullTape() {
