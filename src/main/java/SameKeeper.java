@@ -1788,15 +1788,17 @@ public final class SameKeeper {
             int ahead = start;
             for (int d = 0; d < days; d++) {
                 int moods = next(d, ahead);
+                int chosen = 0;
                 for (int m = 0; m < MOODS; m++) {
                     long here = (moods >> m & 1) == 1 ? ways[(d + 1) * MOODS + m] : 0;
                     if (left < here) {
-                        row[d] = m;
+                        chosen = m;
                         break;
                     }
                     left -= here;
                 }
-                ahead = row[d];
+                row[d] = chosen;
+                ahead = chosen;
             }
         }
 
@@ -1828,13 +1830,15 @@ public final class SameKeeper {
             int ahead = start;
             for (int d = 0; d < days; d++) {
                 int moods = next(d, ahead);
+                int chosen = 0;
                 for (int m = 0; m < MOODS; m++) {
                     if ((moods >> m & 1) == 1 && gainBy(d, m) == gains[d * MOODS + ahead]) {
-                        row[d] = m;
+                        chosen = m;
                         break;
                     }
                 }
-                ahead = row[d];
+                row[d] = chosen;
+                ahead = chosen;
             }
         }
     }

@@ -6,12 +6,21 @@ import java.util.Map;
 import java.util.function.Predicate;
 
 /**
- * A second telling of the document, as plain as can be: every row of moods is tried one by one.
- * It is slow, and for locks of few days alone.
+ * A second telling of the document, as plain as can be: the weeks that agree are found mood by mood, and
+ * each is written down. It is slow, and tells of no more than MOST_WEEKS weeks.
  */
 final class Model {
     static final long NONE = -1;
     static final long NOTHING = -1000000000000000L;
+
+    static final int MOST_WEEKS = 10000;
+
+    /** More weeks agree than the model writes down. */
+    static final class TooMany extends RuntimeException {
+        TooMany() {
+            super(null, null, false, false);
+        }
+    }
 
     interface Sum {
         long of(Map<String, Long> names);
@@ -71,6 +80,7 @@ final class Model {
     private List<Keeper> undoable = new ArrayList<>();
     private List<int[]> rows = new ArrayList<>();
     private long x = 1;
+    private final Map<List<Integer>, Day> known = new HashMap<>();
 
     // ---- texts
 
@@ -413,39 +423,51 @@ final class Model {
         return (int) Math.floorMod(lock.does.of(m), 10L);
     }
 
-    private List<int[]> agreeing(Keeper k, int lie) {
-        int[][] said = new int[lock.days][10];
-        int[][][] turned = new int[lock.days][10][10];
-        for (int d = 0; d < lock.days; d++) {
+    /** What he says on a day by its mood, and what he becomes by the mood ahead and a word. */
+    private static final class Day {
+        final int[] said = new int[10];
+        final int[][] turned = new int[10][10];
+    }
+
+    private Day dayOf(Keeper k, int d) {
+        List<Integer> key = Arrays.asList(d, k.week, k.barge[d], k.wet[d], k.mute[d] ? 1 : 0);
+        return known.computeIfAbsent(key, unknown -> {
+            Day day = new Day();
             for (int a = 0; a < 10; a++) {
-                said[d][a] = says(k, d, a);
+                day.said[a] = says(k, d, a);
                 for (int b = 0; b < 10; b++) {
-                    turned[d][a][b] = becomes(k, d, a, b);
+                    day.turned[a][b] = becomes(k, d, a, b);
                 }
             }
+            return day;
+        });
+    }
+
+    private List<int[]> agreeing(Keeper k, int lie) {
+        Day[] days = new Day[lock.days];
+        for (int d = 0; d < lock.days; d++) {
+            days[d] = dayOf(k, d);
         }
         List<int[]> all = new ArrayList<>();
-        int many = 1;
-        for (int d = 0; d < lock.days; d++) {
-            many *= 10;
-        }
-        for (int n = 0; n < many; n++) {
-            int[] week = new int[lock.days];
-            int rest = n;
-            for (int d = lock.days - 1; d >= 0; d--) {
-                week[d] = rest % 10;
-                rest /= 10;
-            }
-            boolean agrees = true;
-            for (int d = 0; d < lock.days && agrees; d++) {
-                int ahead = d == 0 ? k.mood : week[d - 1];
-                agrees = turned[d][ahead][(said[d][week[d]] + lie) % 10] == week[d];
-            }
-            if (agrees) {
-                all.add(week);
-            }
-        }
+        tryDay(days, k.mood, lie, new int[lock.days], 0, all);
         return all;
+    }
+
+    /** Every mood of this day is tried, behind days that agree, and with each every row of the days behind it. */
+    private static void tryDay(Day[] days, int ahead, int lie, int[] week, int d, List<int[]> all) {
+        if (d == days.length) {
+            if (all.size() == MOST_WEEKS) {
+                throw new TooMany();
+            }
+            all.add(week.clone());
+            return;
+        }
+        for (int m = 0; m < 10; m++) {
+            week[d] = m;
+            if (days[d].turned[ahead][(days[d].said[m] + lie) % 10] == m) {
+                tryDay(days, m, lie, week, d + 1, all);
+            }
+        }
     }
 
     private List<int[]> agreeing() {
@@ -578,6 +600,7 @@ final class Model {
         keeper.mute = lock.mute.clone();
         undoable.clear();
         rows.clear();
+        known.clear();
         return lock.statements;
     }
 
